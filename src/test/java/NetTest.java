@@ -20,7 +20,9 @@ public final class NetTest {
         promise7Count();
         promise8Undo();
         promise8UndoRestoresEverything();
+        promise8UndoRestoresTheNet();
         promise8UndoRestoresLogAndSecondWay();
+        fullNet();
         Check.end("NetTest");
     }
 
@@ -98,6 +100,7 @@ public final class NetTest {
         due("3: a seventeenth", x.isolator(0, 1), LIMIT);
         due("3: a seventeenth, wrong", x.isolator(0, 0), INVALID);
         due("3: still sixteen", x.count(1), 16);
+        due("5: sixteen isolators at it", x.sectionOf(1, 9), 16);
     }
 
     /** Sections 0 (fed), 1 - 2 (dead and bridged), where 2 gets an earth, or tools. */
@@ -126,6 +129,16 @@ public final class NetTest {
         due("3: earth at it", deadPair(true, false).isolator(0, 2), NOT_POSSIBLE);
         due("3: tools behind", deadPair(false, true).isolator(0, 1), NOT_POSSIBLE);
         due("3: tools at it, turned", deadPair(false, true).isolator(2, 0), NOT_POSSIBLE);
+        TramWires first = new TramWires();
+        first.section(1, 0);
+        first.section(1, 1);
+        first.step(0, 0);
+        first.step(6, 0);
+        due("3: an earth on the first section", first.isolator(0, 1), NOT_POSSIBLE);
+        first.enter(0, 1, 0);
+        first.leave(0, 0);
+        first.step(7, 0);
+        due("3: one tool on the first section", first.isolator(1, 0), NOT_POSSIBLE);
         TramWires x = deadPair(true, true);
         due("3: among dead ones", x.isolator(2, 1), 1);
         int states = x.count(14);
@@ -296,6 +309,14 @@ public final class NetTest {
         due("6: asking changes nothing", x.count(4) + 10 * x.isolatorOf(0, 2), 1);
         x.step(6, 3);
         due("6: also if it would be refused", x.isolatorOf(0, 5), 3);
+        TramWires y = new TramWires();
+        y.section(1, 0);
+        y.section(1, 1);
+        y.isolator(0, 1);
+        due("6: opening darkens the first section", y.isolatorOf(0, 4), 1);
+        y.step(0, 0);
+        y.step(2, 0);
+        due("6: closing lights the first section", y.isolatorOf(0, 5), 1);
     }
 
     private static void promise6SecondWay() {
@@ -313,6 +334,18 @@ public final class NetTest {
         due("6: is closed", x.isolatorOf(1, 3), 1);
         x.step(3, 0);
         due("6: closed again", x.isolatorOf(0, 3), 1);
+        TramWires y = new TramWires();
+        y.section(1, 0);
+        y.section(1, 0);
+        y.isolator(0, 1);
+        y.isolator(0, 1);
+        y.step(2, 0);
+        for (int i = 0; i < 24; i++) {
+            y.step(i % 2 == 0 ? 2 : 3, 1);
+        }
+        due("6: the first step has left the log", y.log(23, 1), 1);
+        due("6: open by the one step ahead", y.isolatorOf(0, 3), 0);
+        due("6: closed by the latest step", y.isolatorOf(1, 3), 1);
     }
 
     private static void promise7Count() {
@@ -343,6 +376,13 @@ public final class NetTest {
         for (int i = 0; i < counts.length; i++) {
             due("7: count(" + i + ")", x.count(i), counts[i]);
         }
+        TramWires y = new TramWires();
+        y.section(1, 0);
+        y.step(0, 0);
+        y.step(6, 0);
+        y.enter(0, 0, 0);
+        y.pass(1);
+        due("7: late on the first section", y.count(12), 1);
     }
 
     private static void promise8Undo() {
@@ -396,6 +436,80 @@ public final class NetTest {
         due("8: the text stays", x.count(15), 6);
         due("8: steps made", x.count(9), 1);
         due("8: steps in the log", x.count(10), 1);
+    }
+
+    private static void promise8UndoRestoresTheNet() {
+        TramWires x = row(4);
+        for (int i = 0; i < 4; i++) {
+            x.step(0, i);
+        }
+        x.step(2, 1);
+        x.step(4, 0);
+        due("8: two groups", x.count(13), 2);
+        due("8: all dead", x.count(4), 0);
+        x.undo();
+        due("8: the feeder is on", x.sectionOf(0, 1), 2);
+        due("8: two are live", x.count(4), 2);
+        x.undo();
+        due("8: one group", x.count(13), 1);
+        due("8: four together", x.sectionOf(3, 8), 4);
+        due("8: all live", x.count(4), 4);
+        x.isolator(0, 3);
+        x.step(2, 0);
+        x.undo();
+        x.undo();
+        due("8: without the isolator", x.isolatorOf(3, 0), INVALID);
+        due("8: isolators at 3", x.sectionOf(3, 9), 1);
+        TramWires y = deadPair(true, false);
+        y.enter(2, 30, 4);
+        y.leave(2, 30);
+        y.enter(2, 1, 50);
+        y.undo();
+        y.undo();
+        due("8: the time of the gang ahead", y.sectionOf(2, 10), 4);
+        due("8: the tools that it brought", y.leave(2, 30), 0);
+    }
+
+    /** Ten sections in a ring, sixteen isolators: the rows' ends. */
+    private static void fullNet() {
+        TramWires x = new TramWires();
+        for (int i = 0; i < 10; i++) {
+            x.section(1, i == 9 ? 1 : 0);
+        }
+        for (int i = 0; i < 16; i++) {
+            x.isolator(i % 10, (i + 1) % 10);
+        }
+        due("5: isolators at 9", x.sectionOf(9, 9), 2);
+        due("5: isolators at 0", x.sectionOf(0, 9), 3);
+        due("6: darkens none", x.isolatorOf(15, 4), 0);
+        due("9: darkens none", x.refusal(2, 9), 0);
+        due("9: darkens all", x.refusal(4, 9), 52);
+        due("13: all but the feeder", x.canPlan(9), 1);
+        x.pool(40);
+        for (int i = 0; i < 10; i++) {
+            due("10: bridge " + i, x.step(0, i), 10);
+        }
+        due("7: bridged", x.count(5), 10);
+        due("7: free", x.count(3), 30);
+        due("9: no trams to darken", x.refusal(4, 9), 0);
+        due("13: all of it", x.canPlan(9), 4);
+        due("10: open 9", x.step(2, 9), 10);
+        due("10: open 8", x.step(2, 8), 1);
+        due("6: closing 9 lights nine", x.isolatorOf(9, 5), 9);
+        due("9: closing 9", x.refusal(3, 9), 0);
+        due("10: earth 0", x.step(6, 0), 1);
+        due("9: closing 8, an earth on 0", x.refusal(3, 8), 42);
+        due("14: a gang", x.enter(0, 1, 0), 1);
+        due("15: it leaves a tool", x.leave(0, 0), 0);
+        due("10: earth away", x.step(7, 0), 1);
+        due("9: closing 8, a tool on 0", x.refusal(3, 8), 43);
+        due("10: feeder off", x.step(4, 9), 0);
+        due("10: close 8", x.step(3, 8), 0);
+        due("9: feeder on, a tool on 0", x.refusal(5, 9), 63);
+        due("16: the tool", x.fetch(0), 1);
+        due("9: feeder on", x.refusal(5, 9), 0);
+        due("10: feeder on", x.step(5, 9), 10);
+        due("5: live in the second way", x.sectionOf(0, 3), 1);
     }
 
     private static void promise8UndoRestoresLogAndSecondWay() {

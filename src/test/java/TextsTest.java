@@ -9,6 +9,7 @@ public final class TextsTest {
         promise18Type();
         promise19ClearText();
         promise20Arguments();
+        promise20EmptyAfterFault();
         promise20Form();
         promise20Places();
         promise20Refusals();
@@ -17,6 +18,7 @@ public final class TextsTest {
         promise21Play();
         promise21IsOneChange();
         promise21Times();
+        promise21SecondWay();
         Check.end("TextsTest");
     }
 
@@ -75,6 +77,19 @@ public final class TextsTest {
         due("20: what 2 with a fault", x.fault(2), INVALID);
         due("20: position", x.fault(0), 0);
         due("20: reason", x.fault(1), 1);
+    }
+
+    private static void promise20EmptyAfterFault() {
+        TramWires x = row();
+        Check.faulty(x, "x", 0, 1);
+        x.clearText();
+        due("20: emptied", x.fault(0), NOT_FOUND);
+        due("20: emptied", x.fault(1), NOT_FOUND);
+        due("21: emptied", x.play(), 0);
+        Check.faulty(x, "b0;b0;", 3, 11);
+        x.clearText();
+        due("20: emptied again", x.fault(0), NOT_FOUND);
+        due("21: emptied again", x.play(), 0);
     }
 
     private static void promise20Form() {
@@ -225,5 +240,26 @@ public final class TextsTest {
         due("21: undo", x.undo(), 4);
         due("21: the oldest is back", x.log(21, 0), 0);
         due("21: its time", x.log(21, 2), 8);
+    }
+
+    private static void promise21SecondWay() {
+        TramWires x = new TramWires();
+        x.section(1, 0);
+        x.section(1, 1);
+        x.isolator(0, 1);
+        x.isolator(0, 1);
+        x.step(0, 0);
+        x.step(0, 1);
+        x.step(2, 0);
+        x.step(4, 1);
+        Check.text(x, "o1;c1;o1;c1;o1;c1;o1;c1;o1;c1;o1;c1;o1;c1;o1;c1;o1;c1;o1;c1;");
+        due("21: twenty", x.play(), 20);
+        due("21: the opening is in the log", x.log(21, 0), 2);
+        due("21: twenty more", x.play(), 20);
+        due("21: it has left the log", x.log(23, 1), 1);
+        due("21: open by what was ahead", x.isolatorOf(0, 3), 0);
+        due("21: closed by the log", x.isolatorOf(1, 3), 1);
+        due("21: the feeder is off by what was ahead", x.sectionOf(1, 3), 0);
+        due("21: the text has no fault", x.fault(0), NOT_FOUND);
     }
 }
