@@ -107,6 +107,11 @@ public final class StepsTest {
         y.section(1, 0);
         y.isolator(0, 1);
         due("9: dead with trams does not become dead", y.refusal(2, 0), 0);
+        y.section(1, 1);
+        y.isolator(2, 1);
+        due("9: trams on the first section", y.refusal(2, 0), 32);
+        y.step(0, 0);
+        due("9: buses on the first section", y.refusal(2, 0), 0);
     }
 
     private static void promise9Closing() {
