@@ -5,6 +5,7 @@ import java.util.TreeMap;
 public final class PlainModelTest {
     private static final int RUNS = 3000;
     private static final int CALLS = 512;
+    private static final int MOST_IN_A_DRAW = 8;
     private static final int MOST_SHOWN = 20;
     private static final int[] FAR = {Integer.MIN_VALUE, Integer.MIN_VALUE + 1, -100001, -17, -2, -1,
         0, 1, 2, 9, 10, 11, 15, 16, 17, 23, 24, 40, 41, 50, 51, 60, 61, 99, 100, 126, 127, 10000, 10001,
@@ -69,9 +70,13 @@ public final class PlainModelTest {
         if (random.nextBoolean()) {
             pool(40);
         }
-        while (asked < CALLS && wrong == 0) {
+        while (asked + MOST_IN_A_DRAW <= CALLS && wrong == 0) {
             draw();
         }
+        while (asked < CALLS && wrong == 0) {
+            drawQuestion();
+        }
+        Check.due("calls after the 512th", Math.max(0, asked - CALLS), 0);
     }
 
     private void draw() {

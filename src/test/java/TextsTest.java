@@ -93,14 +93,16 @@ public final class TextsTest {
     }
 
     private static void promise20Form() {
-        TramWires x = row();
         String[] unformed = {";", "b", "b;", "b1", "b12", "b01", "1;", "b 1;", " b1;", "b1 ;", "B1;", "a1;", "b001;",
             "b1,", "b-1;", "b1x;", "bb;", "b/;", "b:;", "b1/;", "b1:;", "x99;", "~1;"};
         for (String text : unformed) {
+            // One object for each text, since the document says nothing of calls after the 512th.
+            TramWires x = row();
             Check.faulty(x, text, 0, 1);
             Check.faulty(x, "b0;" + text, 3, 1);
             Check.faulty(x, "b00;" + text, 4, 1);
         }
+        TramWires x = row();
         Check.faultless(x, "b1;");
         Check.faultless(x, "b01;");
         Check.faulty(x, "b1; b2;", 3, 1);
