@@ -23,8 +23,8 @@ public final class LanguageTest {
     private static final String[] BARRED = {"throw", "throws", "try", "catch", "finally", "synchronized", "assert",
         "package", "protected", "native", "volatile", "transient", "hashCode", "\\w+Exact", "->", "::"};
     /** What rule 4 allows of classes with static functions; of the others it allows all that the class could need. */
-    private static final String LIBRARY = "System\\.arraycopy|(Math|Integer|Long)\\.\\w+|Integer|List\\.of|List|ArrayList"
-        + "|Arrays\\.(copyOf|copyOfRange|fill)|String|StringBuilder|Iterator|Iterable|Comparable";
+    private static final String LIBRARY = "System\\.arraycopy|(Math|Integer|Long)\\.\\w+|Integer|List\\.of|List"
+        + "|ArrayList|Arrays\\.(copyOf|copyOfRange|fill)|String|StringBuilder|Iterator|Iterable|Comparable";
     private static final int MOST_LINES = 60;
     /** One run has room for some 7.3 million fields and elements, and this is far below. */
     private static final long MOST_BYTES = 16_000_000;
